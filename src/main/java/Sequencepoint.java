@@ -419,7 +419,7 @@ public final class Sequencepoint {
 
     public int undefinedOrders() throws IllegalStateException {
         refuseProgramWithoutStart();
-        return countUndefined();
+        return gatherOutcomes();
     }
 
     public int optimised() throws IllegalStateException {
@@ -436,7 +436,7 @@ public final class Sequencepoint {
 
     public boolean isAsIf() throws IllegalStateException {
         refuseProgramWithoutStart();
-        if (countUndefined() > 0) {
+        if (gatherOutcomes() > 0) {
             return true;
         }
         optimiser.improve(program);
@@ -451,25 +451,16 @@ public final class Sequencepoint {
 
     public float definedShare() throws IllegalStateException {
         refuseProgramWithoutStart();
-        return (float) (ORDERS - countUndefined()) / (float) ORDERS;
+        return (float) (ORDERS - gatherOutcomes()) / (float) ORDERS;
     }
 
     public long allSteps() {
         return stepsOfAll;
     }
 
-    private int countUndefined() {
-        gatherOutcomes();
-        int count = 0;
-        for (int order = 0; order < ORDERS; order++) {
-            if (outcomes[order].ending == UNDEFINED) {
-                count++;
-            }
-        }
-        return count;
-    }
-
-    private void gatherOutcomes() {
+    /** Runs the program under the orders 0 to 15, and counts those under which it comes to no meaning. */
+    private int gatherOutcomes() {
+        int undefined = 0;
         for (int order = 0; order < ORDERS; order++) {
             // A run that chose no order goes the same way under each of them.
             if (order > 0 && outcomes[0].choiceCount == 0) {
@@ -477,7 +468,11 @@ public final class Sequencepoint {
             } else {
                 machine.perform(program, program.bodies, order, outcomes[order]);
             }
+            if (outcomes[order].ending == UNDEFINED) {
+                undefined++;
+            }
         }
+        return undefined;
     }
 
     private boolean isAmongFirst(int count, Outcome outcome) {
@@ -716,17 +711,10 @@ public final class Sequencepoint {
             return convert(value, type) == value;
         }
 
+        /** The numbers of types come in pairs of as many bits, a signed one ahead of one without a sign. */
         static long convert(long value, int type) {
-            int spare = 64 - bits(type);
-            return isSigned(type) ? value << spare >> spare : value << spare >>> spare;
-        }
-
-        private static int bits(int type) {
-            return 8 << (type >> 1);
-        }
-
-        private static boolean isSigned(int type) {
-            return (type & 1) == 0;
+            int spare = 64 - (8 << (type >> 1));
+            return (type & 1) == 0 ? value << spare >> spare : value << spare >>> spare;
         }
 
         static int promoted(int type) {
@@ -739,21 +727,18 @@ public final class Sequencepoint {
         }
 
         static char faultOf(char kind, int type, long x, long y) {
-            if (kind == 'l' || kind == 'r') {
-                return isShiftFine(kind, type, x, y) ? FINE : 's';
+            if ((kind == 'l' || kind == 'r') && (y < 0 || y >= 8 << (type >> 1))) {
+                return 's';
             }
             if ((kind == '/' || kind == '%') && y == 0) {
                 return 'z';
             }
-            boolean isExact = !isSigned(type) || kind == '<' || kind == '=' || has(type, rawOf(kind, x, y));
-            return isExact ? FINE : 'o';
-        }
-
-        private static boolean isShiftFine(char kind, int type, long x, long y) {
-            if (y < 0 || y >= bits(type)) {
-                return false;
+            boolean isAlwaysFine = (type & 1) != 0 || kind == 'r' || kind == '<' || kind == '=';
+            long raw = rawOf(kind, x, y);
+            if (isAlwaysFine || convert(raw, type) == raw && !(kind == 'l' && x < 0)) {
+                return FINE;
             }
-            return kind == 'r' || !isSigned(type) || x >= 0 && has(type, x << y);
+            return kind == 'l' ? 's' : 'o';
         }
 
         static long resultOf(char kind, int type, long x, long y) {
@@ -999,7 +984,9 @@ public final class Sequencepoint {
             stepCount = other.stepCount;
             choiceCount = other.choiceCount;
             length = other.length;
-            System.arraycopy(other.text, 0, text, 0, text.length);
+            for (int index = 0; index < length && index < text.length; index++) {
+                text[index] = other.text[index];
+            }
         }
 
         void print(char character) {
@@ -1072,7 +1059,7 @@ public final class Sequencepoint {
         }
 
         void end(int life) {
-            if (isLife(life)) {
+            if (life >= 0 && life < lifeCount) {
                 isAlive[life] = false;
             }
         }
@@ -1083,43 +1070,39 @@ public final class Sequencepoint {
             }
         }
 
-        private boolean isLife(int life) {
-            return life >= 0 && life < lifeCount;
-        }
-
         private boolean isCell(long cell) {
             return cell >= 0 && cell < cellCount;
         }
 
         long pointerTo(int life) {
-            return isLife(life) ? firstCell[life] + 1 : 0;
+            return life >= 0 && life < lifeCount ? firstCell[life] + 1 : 0;
         }
 
+        /** NONE for null. */
         int lifeOf(long pointer) {
-            return isCell(pointer - 1) ? owner[(int) pointer - 1] : NONE;
+            return pointer > 0 && pointer <= cellCount ? owner[(int) pointer - 1] : NONE;
         }
 
         boolean isLiving(long pointer) {
             int life = lifeOf(pointer);
-            return isLife(life) && isAlive[life];
+            return life >= 0 && life < lifeCount && isAlive[life];
         }
 
-        char faultOfWriting(long pointer) {
+        char faultOfUsing(long pointer, boolean isRead) {
             int life = lifeOf(pointer);
-            if (!isLife(life) || !isAlive[life]) {
+            if (life < 0 || life >= lifeCount || !isAlive[life]) {
                 return 'd';
             }
-            return pointer - 1 < lastCell[life] ? FINE : 'b';
-        }
-
-        char faultOfReading(long pointer) {
-            char fault = faultOfWriting(pointer);
-            return fault == FINE && isCell(pointer - 1) && !isDetermined[(int) pointer - 1] ? 'i' : fault;
+            int cell = (int) pointer - 1;
+            if (cell < 0 || cell >= lastCell[life]) {
+                return 'b';
+            }
+            return isRead && !isDetermined[cell] ? 'i' : FINE;
         }
 
         char faultOfMoving(long pointer, long by) {
             int life = lifeOf(pointer);
-            if (!isLife(life) || !isAlive[life]) {
+            if (life < 0 || life >= lifeCount || !isAlive[life]) {
                 return 'd';
             }
             long cell = pointer - 1 + by;
@@ -1184,7 +1167,7 @@ public final class Sequencepoint {
     private static final class Machine {
         private final Memory memory = new Memory();
         /** For each open call a row of the lives that the variables have in it; row 0 is that of global ones. */
-        private final int[] lifeOf = new int[(MAX_CALLS + 1) * MAX_VARIABLES];
+        private final int[] rows = new int[(MAX_CALLS + 1) * MAX_VARIABLES];
         private Statement[] bodies;
         private Outcome outcome;
         private int order;
@@ -1431,7 +1414,7 @@ public final class Sequencepoint {
         }
 
         private long read(Node node, long pointer) {
-            char fault = memory.faultOfReading(pointer);
+            char fault = memory.faultOfUsing(pointer, true);
             return fault == FINE ? memory.read(pointer) : fail(fault, node);
         }
 
@@ -1439,7 +1422,7 @@ public final class Sequencepoint {
             if (isOver()) {
                 return 0;
             }
-            char fault = memory.faultOfWriting(pointer);
+            char fault = memory.faultOfUsing(pointer, false);
             if (fault != FINE) {
                 return fail(fault, node);
             }
@@ -1451,27 +1434,27 @@ public final class Sequencepoint {
             depth = row;
             for (int index = 0; index < MAX_VARIABLES; index++) {
                 int slot = row * MAX_VARIABLES + index;
-                if (slot >= 0 && slot < lifeOf.length) {
-                    lifeOf[slot] = NONE;
+                if (slot >= 0 && slot < rows.length) {
+                    rows[slot] = NONE;
                 }
             }
         }
 
         private int slotOf(Variable variable) {
             int slot = (variable.isGlobal ? 0 : depth * MAX_VARIABLES) + variable.index;
-            return slot >= 0 && slot < lifeOf.length ? slot : NONE;
+            return slot >= 0 && slot < rows.length ? slot : NONE;
         }
 
         private long pointerTo(Variable variable) {
             int slot = variable == null ? NONE : slotOf(variable);
-            return slot == NONE ? 0 : memory.pointerTo(lifeOf[slot]);
+            return slot == NONE ? 0 : memory.pointerTo(rows[slot]);
         }
 
         private void bring(Variable variable) {
             int slot = variable == null ? NONE : slotOf(variable);
             if (slot != NONE) {
-                memory.end(lifeOf[slot]);
-                lifeOf[slot] = memory.bear(variable.parts());
+                memory.end(rows[slot]);
+                rows[slot] = memory.bear(variable.parts());
             }
         }
 
