@@ -371,17 +371,19 @@ public final class Sequencepoint {
     }
 
     public char kindOf() throws NoSuchElementException {
-        if (last.ending != UNDEFINED) {
-            throw new NoSuchElementException("nothing without a meaning");
-        }
+        refuseRunWithMeaning();
         return last.kind;
     }
 
     public int placeOf() throws NoSuchElementException {
+        refuseRunWithMeaning();
+        return last.node;
+    }
+
+    private void refuseRunWithMeaning() {
         if (last.ending != UNDEFINED) {
             throw new NoSuchElementException("nothing without a meaning");
         }
-        return last.node;
     }
 
     public int steps() {
