@@ -1017,9 +1017,13 @@ public final class Sequencepoint {
      * life that ended is known for what it is.
      */
     private static final class Memory {
-        /** Each step brings at most one array to life, or two parameters. */
-        private static final int MAX_LIVES = MAX_VARIABLES + 2 * MAX_STEPS;
-        private static final int MAX_CELLS = (MAX_LENGTH + 1) * (MAX_VARIABLES + MAX_STEPS);
+        /**
+         * A life costs two steps or more: 'd', and the 's' or the condition that stands ahead of it and of no other
+         * 'd'; or, for two parameters, a call with its parts and its return. Only the calls that are still open have
+         * theirs for less, and they are few.
+         */
+        private static final int MAX_LIVES = MAX_VARIABLES + MAX_STEPS / 2 + 4 * MAX_CALLS;
+        private static final int MAX_CELLS = (MAX_LENGTH + 1) * MAX_LIVES;
         /** Each step reads and writes one part at most, or writes two parameters. */
         private static final int MAX_LOGGED = 2 * MAX_STEPS;
 

@@ -1,140 +1,5 @@
-import java.util.NoSuchElementException;
-
 /** For each promise of the document: ordinary inputs, the edges that it names, and wrong inputs. */
-public final class PromiseTest {
-    private static final Class<?> ARGUMENT = IllegalArgumentException.class;
-    private static final Class<?> INDEX = IndexOutOfBoundsException.class;
-    private static final Class<?> UNSUPPORTED = UnsupportedOperationException.class;
-    private static final Class<?> STATE = IllegalStateException.class;
-    private static final Class<?> NONE = NoSuchElementException.class;
-
-    private static int passed;
-    private static int failed;
-    private static String promise = "";
-
-    private interface Call {
-        void make();
-    }
-
-    private static void is(String what, long got, long due) {
-        if (got == due) {
-            passed++;
-        } else {
-            failed++;
-            System.out.println(promise + ": " + what + " answered " + got + ", due is " + due);
-        }
-    }
-
-    private static void is(String what, String got, String due) {
-        is(what + " '" + got + "' against '" + due + "'", got.equals(due) ? 1 : 0, 1);
-    }
-
-    private static void refuses(String what, Class<?> due, Call call) {
-        Class<?> got = null;
-        try {
-            call.make();
-        } catch (RuntimeException e) {
-            got = e.getClass();
-        }
-        is(what + " threw " + got + ", due is " + due, got == due ? 1 : 0, 1);
-    }
-
-    // Building programs shortly
-
-    /** A judge with the function 0, which has no parameters and gives the type 2. */
-    private static Sequencepoint judge() {
-        Sequencepoint j = new Sequencepoint();
-        j.addFunction(2, -1, -1);
-        return j;
-    }
-
-    private static int num(Sequencepoint j, int value) {
-        return j.number(value, 2);
-    }
-
-    private static int put(Sequencepoint j, int variable, int node) {
-        return j.simple('e', j.assign('s', j.name(variable), node));
-    }
-
-    private static int print(Sequencepoint j, int node) {
-        return j.simple('p', node);
-    }
-
-    private static int all(Sequencepoint j, int... statements) {
-        int whole = statements[0];
-        for (int k = 1; k < statements.length; k++) {
-            whole = j.then(whole, statements[k]);
-        }
-        return whole;
-    }
-
-    /** Gives function 0 these statements, runs it, and tells the end, the kind and place, and what was printed. */
-    private static String told(Sequencepoint j, int order, int... statements) {
-        j.setBody(0, all(j, statements));
-        return again(j, order);
-    }
-
-    private static String again(Sequencepoint j, int order) {
-        char end = j.run(order);
-        return (end == 'x' ? "x" + j.kindOf() + j.placeOf() : "" + end) + text(j);
-    }
-
-    private static String text(Sequencepoint j) {
-        StringBuilder text = new StringBuilder();
-        for (int k = 0; k < j.printed(); k++) {
-            text.append(k == 0 ? ":" : "").append(j.printedAt(k));
-        }
-        return text.toString();
-    }
-
-    /** What is printed of a node, or how the run ended otherwise, without the number of the place. */
-    private static String value(Sequencepoint j, int node) {
-        j.setBody(0, print(j, node));
-        char end = j.run(0);
-        return end == 'n' ? text(j).substring(1).trim() : end == 'x' ? "" + j.kindOf() : "" + end;
-    }
-
-    private static String two(char kind, int first, int firstType, int second, int secondType) {
-        Sequencepoint j = judge();
-        return value(j, j.binary(kind, j.number(first, firstType), j.number(second, secondType)));
-    }
-
-    private static void fillNodes(Sequencepoint j) {
-        while (true) {
-            try {
-                j.number(0, 0);
-            } catch (IllegalStateException e) {
-                return;
-            }
-        }
-    }
-
-    private static void fillStatements(Sequencepoint j, int variable) {
-        while (true) {
-            try {
-                j.declare(variable);
-            } catch (IllegalStateException e) {
-                return;
-            }
-        }
-    }
-
-    private static int deepNode(Sequencepoint j, int depth) {
-        int node = num(j, 1);
-        for (int k = 1; k < depth; k++) {
-            node = j.unary('-', node);
-        }
-        return node;
-    }
-
-    private static int deepStatement(Sequencepoint j, int depth) {
-        int statement = j.simple('e', num(j, 1));
-        for (int k = 1; k < depth; k++) {
-            statement = j.block(statement);
-        }
-        return statement;
-    }
-
+public final class PromiseTest extends Checks {
     // Promises
 
     private static void newObject() {
@@ -1343,46 +1208,36 @@ public final class PromiseTest {
         is("no steps", j.allSteps(), 0);
     }
 
-    private static void promises(String name, Call... tests) {
-        promise = name;
-        for (Call test : tests) {
-            test.make();
-        }
-    }
-
     public static void main(String[] args) {
-        promises("1", PromiseTest::newObject);
-        promises("2", PromiseTest::addVariable);
-        promises("3", PromiseTest::addFunction);
-        promises("4", PromiseTest::setBody);
-        promises("5", PromiseTest::number);
-        promises("6", PromiseTest::name);
-        promises("7", PromiseTest::unary, PromiseTest::unaryValues, PromiseTest::changingPlaces);
-        promises("8", PromiseTest::cast);
-        promises("9", PromiseTest::binary, PromiseTest::binaryValues, PromiseTest::decidedParts);
-        promises("10", PromiseTest::choose);
-        promises("11", PromiseTest::assign, PromiseTest::assignLimits);
-        promises("12", PromiseTest::call);
-        promises("13", PromiseTest::typeOf);
-        promises("14", PromiseTest::simple, PromiseTest::simpleRuns);
-        promises("15", PromiseTest::declare);
-        promises("16", PromiseTest::branch);
-        promises("17", PromiseTest::repeat);
-        promises("18", PromiseTest::then);
-        promises("19", PromiseTest::block);
-        promises("20", PromiseTest::run, PromiseTest::orders, PromiseTest::moreOrders, PromiseTest::manyChoices,
+        about("1", PromiseTest::newObject);
+        about("2", PromiseTest::addVariable);
+        about("3", PromiseTest::addFunction);
+        about("4", PromiseTest::setBody);
+        about("5", PromiseTest::number);
+        about("6", PromiseTest::name);
+        about("7", PromiseTest::unary, PromiseTest::unaryValues, PromiseTest::changingPlaces);
+        about("8", PromiseTest::cast);
+        about("9", PromiseTest::binary, PromiseTest::binaryValues, PromiseTest::decidedParts);
+        about("10", PromiseTest::choose);
+        about("11", PromiseTest::assign, PromiseTest::assignLimits);
+        about("12", PromiseTest::call);
+        about("13", PromiseTest::typeOf);
+        about("14", PromiseTest::simple, PromiseTest::simpleRuns);
+        about("15", PromiseTest::declare);
+        about("16", PromiseTest::branch);
+        about("17", PromiseTest::repeat);
+        about("18", PromiseTest::then);
+        about("19", PromiseTest::block);
+        about("20", PromiseTest::run, PromiseTest::orders, PromiseTest::moreOrders, PromiseTest::manyChoices,
                 PromiseTest::laterChoice, PromiseTest::limits, PromiseTest::deepest);
-        promises("21", PromiseTest::runOptimised, PromiseTest::emptiedRuns);
-        promises("22 and 23", PromiseTest::kindOfAndPlaceOf, PromiseTest::kindU, PromiseTest::moreOfKindU,
+        about("21", PromiseTest::runOptimised, PromiseTest::emptiedRuns);
+        about("22 and 23", PromiseTest::kindOfAndPlaceOf, PromiseTest::kindU, PromiseTest::moreOfKindU,
                 PromiseTest::kindI, PromiseTest::kindD, PromiseTest::kindsBAndP);
-        promises("24 to 27 and 34", PromiseTest::countsOfRuns, PromiseTest::manyRuns);
-        promises("28, 29 and 33", PromiseTest::behaviours, PromiseTest::samePlaceOrNot);
-        promises("30 and 31", PromiseTest::optimised, PromiseTest::optimisedDecisions, PromiseTest::optimisedStatements);
-        promises("32", PromiseTest::isAsIf);
-        promises("exceptions", PromiseTest::nothingChanges);
-        System.out.println("PromiseTest: " + passed + " passed, " + failed + " failed");
-        if (failed > 0) {
-            System.exit(1);
-        }
+        about("24 to 27 and 34", PromiseTest::countsOfRuns, PromiseTest::manyRuns);
+        about("28, 29 and 33", PromiseTest::behaviours, PromiseTest::samePlaceOrNot);
+        about("30 and 31", PromiseTest::optimised, PromiseTest::optimisedDecisions, PromiseTest::optimisedStatements);
+        about("32", PromiseTest::isAsIf);
+        about("exceptions", PromiseTest::nothingChanges);
+        finish("PromiseTest");
     }
 }
