@@ -561,6 +561,25 @@ public final class MeaningBoundsTest extends Checks {
         is("undefinedOrders", j.undefinedOrders(), 16);
     }
 
+    /** 'u' is found behind both parts, by the innermost node whose parts they are. */
+    private static void theFirstActEndsTheRun() {
+        Sequencepoint j = judge();
+        int x = j.addVariable(2, 0, true);
+        int zero = j.binary('/', num(j, 1), num(j, 0));
+        int both = j.binary('+', j.unary('I', j.name(x)), j.binary(',', j.name(x), zero));
+        is("a fault in the second part", told(j, 0, put(j, x, num(j, 1)), just(j, both)), "xz" + zero);
+        int first = j.binary('%', num(j, 1), num(j, 0));
+        int of = j.assign('s', j.name(x), j.binary(',', j.unary('I', j.name(x)), first));
+        is("a fault ahead of the place itself", told(j, 0, put(j, x, num(j, 1)), just(j, of)), "xz" + first);
+        int inner = j.binary('*', j.name(x), j.unary('i', j.name(x)));
+        int outer = j.binary('-', inner, j.unary('d', j.name(x)));
+        is("the innermost one", told(j, 0, put(j, x, num(j, 1)), just(j, outer)), "xu" + inner);
+        is("its steps", j.steps(), 1 + 3 + 1 + 1 + 1 + 2);
+        int wrong = j.binary('/', num(j, 1), num(j, 0));
+        is("nothing behind it", told(j, 0, print(j, num(j, 1)), print(j, wrong), print(j, num(j, 2)),
+                print(j, j.binary('%', num(j, 1), num(j, 0)))), "xz" + wrong + ":1 ");
+    }
+
     // If several apply
 
     private static void sequencedAheadOfAll() {
@@ -641,6 +660,7 @@ public final class MeaningBoundsTest extends Checks {
         about("One of them has written what the other one has read or written.", MeaningBoundsTest::unsequenced,
                 MeaningBoundsTest::placeAndSecondPart, MeaningBoundsTest::partsOfOneObject,
                         MeaningBoundsTest::manyActs);
+        about("A run ends at the first act without a meaning.", MeaningBoundsTest::theFirstActEndsTheRun);
         about("A part has written the place itself.", MeaningBoundsTest::thePlaceItself);
         about("What calls do within their bodies does not count for this.", MeaningBoundsTest::whatCallsDo);
         about("If several apply, 'u' comes first, then the others.", MeaningBoundsTest::sequencedAheadOfAll,
